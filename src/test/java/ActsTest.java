@@ -7,6 +7,7 @@ public final class ActsTest {
         singsAndWhips();
         goes();
         drawsLameOnes();
+        drawsAtTheEdge();
         rests();
         passesDays();
         fillsTheBook();
@@ -167,6 +168,22 @@ public final class ActsTest {
         x.set(2, 3, 0);
         Due.is("all go lame", x.go(0), 4);
         Due.is("LAME", x.look(8), 15);
+    }
+
+    /** One is LAME if the DRAW is below its risk, not if it is its risk. */
+    private static void drawsAtTheEdge() {
+        int state = 0;
+        while (((1664525 * state + 1013904223) >>> 8) % 1000 != 500) {
+            state++;
+        }
+        for (int risk = 500; risk <= 501; risk++) {
+            MuleVote x = train(1, 1);
+            Due.tell(x, 3, "path 0 1 hours 3;");
+            Due.tell(x, 0, "lean 99;risk " + risk + ";");
+            x.vote();
+            x.state(state);
+            Due.is("a DRAW of 500 below " + risk, x.go(1), risk - 500);
+        }
     }
 
     private static void rests() {

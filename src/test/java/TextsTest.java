@@ -101,6 +101,13 @@ public final class TextsTest {
         Due.fault(x, LAW, "leaning 1;", 1, 0);
         Due.fault(x, LAW, "Lean 1;", 1, 0);
         Due.fault(x, LAW, "leanX 1;", 1, 0);
+        Due.fault(x, LAW, "leanA 1;", 1, 0);
+        Due.fault(x, LAW, "leanZ 1;", 1, 0);
+        Due.fault(x, LAW, "lean@1;", 1, 4);
+        Due.fault(x, LAW, "lean[1;", 1, 4);
+        Due.fault(x, LAW, "lean`1;", 1, 4);
+        Due.fault(x, LAW, "lean{1;", 1, 4);
+        Due.fault(x, LAW, "lean 1:;", 1, 6);
         Due.fault(x, LAW, "lean 1\t;", 1, 6);
         Due.fault(x, LAW, "lean\r1;", 1, 4);
         Due.fault(x, LAW, "lean \u00e9;", 1, 5);
@@ -141,6 +148,9 @@ public final class TextsTest {
         Due.fault(x, LAW, ";", 1, 0);
         Due.fault(x, LAW, "need 1;;", 1, 7);
         Due.is("parts", Due.tell(x, LAW, "lean 9999/9999/1*age/2;"), 1);
+        Due.fault(x, LAW, "lean 1 when not", 1, 15);
+        Due.is("nothing is left of a refused one", Due.tell(x, LAW, "need 55;need 1 when 1<2;"), 2);
+        Due.is("of(0, 5)", x.of(0, 5), 55);
     }
 
     private static void countsWhatIsOpen() {

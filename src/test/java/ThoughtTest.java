@@ -35,6 +35,16 @@ public final class ThoughtTest {
         Due.is("stands(1), LAME", x.stands(1), -1);
         Due.is("rounds", x.settles(0), 0);
         Due.is("DRIVER", x.settles(1), -1);
+        MuleVote z = ActsTest.train(12, 1);
+        z.like(11, 0, 40);
+        StringBuilder row = new StringBuilder();
+        for (int i = 0; i < 11; i++) {
+            row.append("mule ").append(i).append(" heeds ").append(i + 1).append(";");
+        }
+        Due.tell(z, 1, row.toString());
+        Due.is("one a round", z.settles(0), 12);
+        Due.is("the last of all", z.stands(0), 0);
+        Due.is("the whole row", z.row(), 12);
         Due.is("nothing stays: TIES", x.look(6), 0);
         Due.is("nothing stays: THE BOOK", x.look(9), 0);
         Due.is("nothing stays: BEHIND", x.of(0, 3), -1);

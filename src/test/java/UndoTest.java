@@ -130,6 +130,9 @@ public final class UndoTest {
             x.man(9, 9, 9);
             x.set(0, 0, 5);
             x.set(1, 0, 7);
+            x.set(3, 1, 88);
+            x.set(4, 1, 8);
+            x.set(5, 1, 9);
             x.state(3);
             x.seen(-1, 0, true);
             x.like(2, 1, 0);
