@@ -26,6 +26,10 @@ public final class MuleVote {
     private static final int MOST_SUM = 9999;
     private static final int MEETING_HOURS = 99;
 
+    /** A need or a lean is this at most; a risk of SURE is a certainty. */
+    private static final int MOST_LEAN = 999;
+    private static final int SURE = 1000;
+
     private static final int SALT_LIKING = 15;
     private static final int WHIP_LIKING = 20;
     private static final int OTHERS_LIKING = 5;
@@ -1016,6 +1020,7 @@ public final class MuleVote {
             return true;
         }
 
+        /** Behind it a condition is expected still. */
         private boolean readOpening(int op) {
             if (opens >= MOST_OPEN) {
                 return tape.fail(TOO_MANY);
@@ -1026,7 +1031,6 @@ public final class MuleVote {
             }
             push(op);
             tape.next();
-            expected = CONDITION;
             return true;
         }
 
@@ -1333,7 +1337,7 @@ public final class MuleVote {
             facts[LIKING] = liking;
             facts[HEEDED] = heeded;
             int lean = law.tells(Law.LEAN, facts, liking + 10 * heeded);
-            return Math.max(0, Math.min(999, lean));
+            return Math.max(0, Math.min(MOST_LEAN, lean));
         }
 
         int leanNow(int mule, int man) {
@@ -1343,13 +1347,13 @@ public final class MuleVote {
 
         int needOf(int mule) {
             factsOf(mule, NONE);
-            return Math.max(0, Math.min(999, law.tells(Law.NEED, facts, 40)));
+            return Math.max(0, Math.min(MOST_LEAN, law.tells(Law.NEED, facts, 40)));
         }
 
         int riskOf(int mule, int hours, int man) {
             factsOf(mule, man);
             facts[HOURS] = hours;
-            return Math.max(0, Math.min(1000, law.tells(Law.RISK, facts, 20 * train.snow)));
+            return Math.max(0, Math.min(SURE, law.tells(Law.RISK, facts, 20 * train.snow)));
         }
 
         int greatestRisk(int hours) {
@@ -1368,7 +1372,7 @@ public final class MuleVote {
             int likely = 1000000;
             for (int m = 0; m < train.mules; m++) {
                 int risk = riskOf(m, hours, man);
-                likely = likely * (isIn(lame, m) ? risk : 1000 - risk) / 1000;
+                likely = likely * (isIn(lame, m) ? risk : SURE - risk) / SURE;
             }
             return likely;
         }
@@ -1478,7 +1482,7 @@ public final class MuleVote {
             write(GONE, camp, hours);
             for (int m = 0; m < train.mules && m < MULES && draws; m++) {
                 int risk = train.lame[m] == 0 ? riskOf(m, hours, train.driver) : 0;
-                if (risk > 0 && train.draw(1000) < risk) {
+                if (risk > 0 && train.draw(SURE) < risk) {
                     train.lame[m] = 1;
                     fallen++;
                     write(LAMED, m, 0);
@@ -1563,20 +1567,41 @@ public final class MuleVote {
             settle(train.lameOnes(), 0, NONE);
         }
 
-        /** Those (not LAME) that lean otherwise to him with his salt: the others need never get any. */
+        /** Those (not LAME) whose standing his salt may move: the others are in no fewest set. */
         private int prepareSalted(World world, int man) {
             int moved = 0;
             for (int m = 0; m < mules && man >= 0 && man < MEN; m++) {
                 int liking = Math.min(MOST_LIKING, world.train.likingFor(m, man) + SALT_LIKING);
                 int most = Integer.bitCount(heeded[m]);
+                boolean differs = false;
+                int top = 0;
                 for (int h = 0; h <= most && h < MULES; h++) {
-                    salted[m * MULES + h] = world.leanOf(m, man, liking, h);
-                    if (salted[m * MULES + h] != leans[(m * MEN + man) * MULES + h]) {
-                        moved |= 1 << m;
-                    }
+                    int with = world.leanOf(m, man, liking, h);
+                    int without = leans[(m * MEN + man) * MULES + h];
+                    salted[m * MULES + h] = with;
+                    differs = differs || with != without;
+                    top = Math.max(top, Math.max(with, without));
+                }
+                if (differs && top >= needs[m] && !prefersAnother(m, man, top)) {
+                    moved |= 1 << m;
                 }
             }
             return moved & ~world.train.lameOnes();
+        }
+
+        /** Whether it takes another man, however they stand, as long as it leans no more to this one than that. */
+        private boolean prefersAnother(int m, int man, int top) {
+            for (int other = 0; other < men && other < MEN && m >= 0 && m < MULES; other++) {
+                int most = Integer.bitCount(heeded[m]);
+                int least = MOST_LEAN;
+                for (int h = 0; h <= most && h < MULES; h++) {
+                    least = Math.min(least, leans[(m * MEN + other) * MULES + h]);
+                }
+                if (other != man && (least > top || least == top && other < man)) {
+                    return true;
+                }
+            }
+            return false;
         }
 
         /** The mules of the set out do not stand; those of the set given have salt of the giver. */

@@ -73,6 +73,12 @@ public final class ThoughtTest {
             Due.is("nothing stays: look(" + what + ")", x.look(what), now[what]);
         }
         Due.is("nothing stays: LIKING", x.of(0, 10), 42);
+        Due.tell(x, 2, "on 0 vote;on 0 go 1;on 1 vote;on 1 go 2;");
+        Due.is("none goes lame in thought", x.goes(2, 0), 0);
+        Due.is("none goes lame in thought", x.goes(2, 1), 2);
+        Due.is("days(2)", x.days(2), 3);
+        Due.is("but they do when it goes", x.look(8), 3);
+        Due.is("and so nobody drives on", x.look(4), 1);
     }
 
     private static void wins() {
