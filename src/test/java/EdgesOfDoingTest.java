@@ -380,6 +380,7 @@ public final class EdgesOfDoingTest {
         Due.is("9: all twelve", x.go(1), 12);
         Due.is("36: LAME", x.look(8), 4095);
         Due.is("36: AT", x.look(4), 1);
+        Due.is("16: LAME is 1", x.of(11, 2), 1);
         Due.is("17: BEHIND", x.manOf(0, 3), 4095);
         book(x, 1, 0, 4, 1, 24);
         for (int m = 0; m < 12; m++) {

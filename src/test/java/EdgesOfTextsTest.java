@@ -697,6 +697,13 @@ public final class EdgesOfTextsTest {
         when("5-1<2*2+1", true);
         when("10/3>10/4", true);
         when("2*3=3+3 and 7-3=8/2", true);
+        when("5<2+1", false);
+        when("1>3-1", false);
+        when("2=3-2", false);
+        when("4=2+1", false);
+        when("1+4<2", false);
+        when("4-2>3", false);
+        when("2*3<2+3", false);
     }
 
     /** "lean of a MULE to a MAN ..", "need of a MULE: the same but ..", "risk of a MULE on a PATH: .. the rest 0" */

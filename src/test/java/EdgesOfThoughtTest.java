@@ -13,6 +13,7 @@ public final class EdgesOfThoughtTest {
         goesBeyondTheLastDay();
         winsWithNoneOrAll();
         winsOfSeveralTheLeast();
+        winsByTheFewest();
         winsOnlyByMulesThatStand();
         winsWith99AtMost();
         winsWhoeverHasSalt();
@@ -228,6 +229,28 @@ public final class EdgesOfThoughtTest {
         Due.is("23: the other one", x.wins(0, 1), 8);
         Due.tell(x, 1, "mule 0 heeds 3;mule 2 heeds 3;");
         Due.is("23: the rest may follow", x.wins(0, 1), 8);
+    }
+
+    /** "the fewest MULES", though more of them make a lesser number. */
+    private static void winsByTheFewest() {
+        MuleVote x = train(5, 2);
+        x.like(3, 1, 60);
+        Due.is("23: two are needed", x.wins(0, 0), 2);
+        Due.is("23: the first two", x.wins(0, 1), 3);
+        Due.tell(x, 1, "mule 4 heeds 2;");
+        Due.is("23: one whom another one follows", x.wins(0, 0), 1);
+        Due.is("23: it alone", x.wins(0, 1), 4);
+        MuleVote y = train(3, 2);
+        y.like(0, 0, 15);
+        y.like(1, 0, 60);
+        y.like(2, 1, 60);
+        y.like(2, 0, 0);
+        Due.is("23: 15 and 15 are too few", y.wins(0, 0), -1);
+        Due.tell(y, 1, "mule 0 heeds 1;");
+        Due.is("23: 15 and 15, and one that it heeds", y.wins(0, 0), 1);
+        Due.is("23: the set", y.wins(0, 1), 1);
+        y.like(0, 0, 14);
+        Due.is("23: 14 and 15, and one that it heeds", y.wins(0, 1), -1);
     }
 
     /** Salt to one that is LAME moves nothing. */
