@@ -13,6 +13,7 @@ public final class EdgesOfRiddlesTest {
         asksByMuleThenMan();
         asksWhatPartsBest();
         fewerThanTwoFit();
+        askedAlone();
         ledWithinTheBits();
         ledDownwardsEachTime();
         ledByTheLikeliest();
@@ -193,6 +194,28 @@ public final class EdgesOfRiddlesTest {
             Due.is("29: nobody", train(0, 0).fits(what), -1);
             Due.is("29: no MEN", train(12, 0).fits(what), -1);
             Due.is("29: no MULES", train(0, 5).fits(what), -1);
+        }
+    }
+
+    /** Each what is answered as it is now, though no other what was asked before, or another one then. */
+    private static void askedAlone() {
+        int[] dues = {100, 0, 0, 0};
+        for (int what = 0; what <= 3; what++) {
+            Due.is("29: fits(" + what + ")", train(1, 1).fits(what), dues[what]);
+        }
+        int[] told = {60, 20, 0, 0};
+        int[] then = {100, 0, 0, 1};
+        for (int what = 0; what <= 3; what++) {
+            MuleVote x = train(1, 2);
+            x.like(0, 0, 19);
+            x.like(0, 1, 79);
+            x.fits(what);
+            x.seen(0, 0, false);
+            x.seen(0, 1, true);
+            x.like(0, 1, what < 2 ? 79 : 50);
+            Due.is("29: fits(" + what + ")", x.fits(what), told[what]);
+            x.seen(-1, 0, true);
+            Due.is("29: fits(" + what + ")", x.fits(what), then[what]);
         }
     }
 

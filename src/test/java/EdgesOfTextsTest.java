@@ -15,6 +15,7 @@ public final class EdgesOfTextsTest {
         textsAre0To4();
         theTapeIsEmptyInEachCase();
         aFaultLeavesTheTextAsItWas();
+        nothingOfAFormerTextStays();
         faultTellsOfTheLatestText();
         blanksBetween();
         lettersAsManyAsStandTogether();
@@ -155,6 +156,47 @@ public final class EdgesOfTextsTest {
         Due.is("26: packs", x.packs(0), 5);
         Due.is("11: days", x.days(1), 1);
         Due.is("11: the song", x.of(0, 10), 34);
+    }
+
+    /** A TEXT is the TAPE, and nothing of the TEXT before, be that longer. */
+    private static void nothingOfAFormerTextStays() {
+        MuleVote x = train(3, 1);
+        good(x, LAW, "lean 1;need 2;risk 3;", 3);
+        good(x, LAW, "lean 5;", 1);
+        Due.is("16: need", x.of(0, 5), 40);
+        Due.is("16: risk", x.of(0, 31), 0);
+        good(x, LAW, "need 6;", 1);
+        Due.is("16: lean", x.of(0, 20), 30);
+        good(x, LAW, "", 0);
+        Due.is("16: need", x.of(0, 5), 40);
+        good(x, HEEDS, "mule 0 heeds 1;mule 1 heeds 2;", 2);
+        good(x, HEEDS, "mule 0 heeds 2;", 1);
+        Due.is("16: heeds", x.of(1, 4), 0);
+        Due.is("16: heeds", x.of(0, 4), 4);
+        good(x, HEEDS, "", 0);
+        Due.is("16: heeds", x.of(0, 4), 0);
+        good(x, PATHS, "path 0 1 hours 1;path 1 2 hours 2;", 2);
+        good(x, PATHS, "path 3 4 hours 1;", 1);
+        Due.is("18: path", x.path(1, 2), -1);
+        Due.is("18: path", x.path(0, 1), -1);
+        good(x, PATHS, "", 0);
+        Due.is("18: path", x.path(3, 4), -1);
+        Due.is("25: way", x.way(3, 4, 0), -1);
+        Due.is("33: meets", x.meets(3, 4), -1);
+        good(x, PLANS, "on 0 sing 0;on 0 vote;on 1 sing 0;", 3);
+        good(x, PLANS, "on 1 vote;", 1);
+        Due.is("11: days", x.days(1), 0);
+        good(x, PLANS, "", 0);
+        Due.is("11: days", x.days(1), 0);
+        good(x, LOADS, "load 1 worth 1;load 1 worth 1;load 1 worth 1;", 3);
+        Due.is("26: packs", x.packs(1), 7);
+        good(x, LOADS, "load 40 worth 99;", 1);
+        Due.is("26: packs", x.packs(0), 0);
+        Due.is("26: packs", x.packs(1), 0);
+        good(x, LOADS, "load 1 worth 2;", 1);
+        Due.is("26: packs", x.packs(1), 1);
+        good(x, LOADS, "", 0);
+        Due.is("26: packs", x.packs(0), 0);
     }
 
     /** "Of the latest text(): what 0 the FAULT (0 without one), 1 its place (NONE). NONE for another what." */
@@ -626,6 +668,9 @@ public final class EdgesOfTextsTest {
         need("9999*9999*9999/9999/99", wrapped / 9999 / 99);
         need("0-9999*9999*9999/9999/99", -(wrapped / 9999 / 99));
         need("7/2", 3);
+        need("7/1", 7);
+        need("7/7", 1);
+        need("7/8", 0);
         need("10+0*age-7/2", 7);
         need("10+age*9999*9999*22/9999/9999", 10 + 2 * 9999 * 9999 * 22 / 9999 / 9999);
         need("100-1*9999*9999*15/9999/9999", 100 - 9999 * 9999 * 15 / 9999 / 9999);

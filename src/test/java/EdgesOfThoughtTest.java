@@ -15,6 +15,7 @@ public final class EdgesOfThoughtTest {
         winsOfSeveralTheLeast();
         winsByTheFewest();
         winsOnlyByMulesThatStand();
+        winsByOneAlone();
         winsWith99AtMost();
         winsWhoeverHasSalt();
         turnsIfItEndsOtherwise();
@@ -27,6 +28,7 @@ public final class EdgesOfThoughtTest {
         packsOfSeveralTheLeast();
         packsEightLoads();
         rowsOfUnlikeMules();
+        nothingOfAFormerAskingStays();
         Due.end("EdgesOfThoughtTest");
     }
 
@@ -265,6 +267,25 @@ public final class EdgesOfThoughtTest {
         Due.is("23: all are LAME", x.wins(0, 0), -1);
     }
 
+    /** Each MULE alone, each MAN, however much the LAME ones lean to whom. */
+    private static void winsByOneAlone() {
+        for (int m = 0; m < 12; m++) {
+            MuleVote x = train(12, 5);
+            for (int other = 0; other < 12; other++) {
+                for (int man = 0; man < 5 && other != m; man++) {
+                    x.like(other, man, 99);
+                }
+                x.set(2, other, other == m ? 0 : 1);
+            }
+            for (int man = 0; man < 5; man++) {
+                Due.is("23: wins(" + man + ", 0) by " + m, x.wins(man, 0), 1);
+                Due.is("23: wins(" + man + ", 1) by " + m, x.wins(man, 1), 1 << m);
+            }
+            Due.is("24: turnsBy(" + m + ")", x.turnsBy(m), 0);
+            Due.is("21: no round", x.settles(0), 0);
+        }
+    }
+
     /** "a LIKING 0 .. 99": in thought too. */
     private static void winsWith99AtMost() {
         int[][] cases = {{84, 99, 1}, {85, 99, 1}, {83, 99, -1}, {98, 99, 1}, {84, 100, -1}, {99, 100, -1}, {90, 105, -1}, {99, 99, 0}};
@@ -484,5 +505,47 @@ public final class EdgesOfThoughtTest {
         row(12, "mule 0 heeds 1;mule 1 heeds 2;mule 2 heeds 3;mule 3 heeds 4;mule 4 heeds 5;mule 5 heeds 6;"
                 + "mule 6 heeds 7;mule 7 heeds 8;mule 8 heeds 9;mule 9 heeds 10;mule 10 heeds 11;mule 11 heeds 0;", 12);
         row(12, "mule 0 heeds 1 and 2 and 3 and 4 and 5 and 6 and 7 and 8 and 9 and 10 and 11;", 2);
+    }
+
+    /** What was thought of before, of more MULES, MEN, heeding, LOADS or PATHS, is forgotten. */
+    private static void nothingOfAFormerAskingStays() {
+        MuleVote x = train(1, 1);
+        x.image(true);
+        x.man(0, 0, 0);
+        x.mule(40, 0);
+        x.like(0, 1, 99);
+        x.like(1, 0, 99);
+        Due.tell(x, 1, "mule 0 heeds 1;mule 1 heeds 0;");
+        Due.tell(x, 3, "path 0 1 hours 1;path 1 2 hours 1;");
+        Due.tell(x, 4, "load 40 worth 40;load 1 worth 1;");
+        x.settles(0);
+        x.wins(0, 0);
+        x.wins(1, 0);
+        x.turnsBy(1);
+        Due.is("27: row", x.row(), 2);
+        Due.is("26: packs", x.packs(0), 41);
+        Due.is("25: way", x.way(0, 2, 0), 2);
+        x.image(false);
+        Due.is("21: rounds", x.settles(0), 0);
+        Due.is("21: DRIVER", x.settles(1), -1);
+        Due.is("20: stands", x.stands(0), -1);
+        Due.is("24: turnsBy", x.turnsBy(0), 0);
+        Due.is("23: wins", x.wins(0, 1), 1);
+        Due.is("27: row", x.row(), 1);
+        Due.is("26: packs", x.packs(0), 0);
+        Due.is("25: way", x.way(0, 2, 0), -1);
+        x.mule(1, 1);
+        x.mule(1, 1);
+        Due.tell(x, 1, "mule 0 heeds 1;mule 1 heeds 2;");
+        Due.is("27: row", x.row(), 3);
+        Due.tell(x, 1, "mule 0 heeds 1;");
+        Due.is("27: row", x.row(), 2);
+        Due.tell(x, 1, "");
+        Due.is("27: row", x.row(), 1);
+        Due.tell(x, 3, "path 0 1 hours 1;");
+        Due.is("25: way", x.way(0, 1, 1), 1);
+        Due.is("25: not back", x.way(1, 0, 0), -1);
+        Due.is("25: SUREST", x.way(0, 1, 2), 0);
+        Due.is("25: hours", x.way(0, 1, 0), 1);
     }
 }
